@@ -35,13 +35,13 @@ public final class InchBorders {
     private static final int TOO_MANY = 4;
 
     // Ten times these and why an act can't be done is what told(0) answers.
-    private static final int CROSS = 0;
-    private static final int PACT = 1;
-    private static final int BREAK = 2;
-    private static final int CLOSE = 3;
-    private static final int OPEN = 4;
-    private static final int LEND = 5;
-    private static final int DAY = 6;
+    private static final int CROSSING = 0;
+    private static final int PACTING = 1;
+    private static final int BREAKING = 2;
+    private static final int CLOSING = 3;
+    private static final int OPENING = 4;
+    private static final int LENDING = 5;
+    private static final int DAYS_GOING = 6;
 
     private static final Word[] WORDS = Word.values();
 
@@ -53,11 +53,11 @@ public final class InchBorders {
     private int pastKept = 0;
     private final State[] images = new State[PLACES];
     private int imaged = 0;
-    private final MapText mapText = new MapText();
-    private final Book latestBook = new Book();
+    private final MapText mapText;
+    private final Book latestBook;
     private final int[] verdict = {NONE, NONE, NONE, NONE};
-    private final Walk walk = new Walk();
-    private final Caravan train = new Caravan();
+    private final Walk walk;
+    private final Caravan train;
     private final Row wayRow = new Row(WAY_CROSSINGS);
     private final Row madeRow = new Row(WAY_CROSSINGS);
     private final Row caravanRow = new Row(MOST_PERSONS);
@@ -76,6 +76,10 @@ public final class InchBorders {
         for (int k = 0; k < PLACES; k++) {
             images[k] = new State(empty);
         }
+        mapText = new MapText(tape, trial);
+        latestBook = new Book(tape, empty);
+        walk = new Walk(empty);
+        train = new Caravan(state);
     }
 
     public int feed(int a, int b, int c, int d, int e) {
@@ -100,7 +104,7 @@ public final class InchBorders {
 
     public int map() {
         trial.clear(new Chart());
-        int lines = mapText.read(tape, trial);
+        int lines = mapText.read();
         tape.length = 0;
         if (tape.fault != 0) {
             return -1 - tape.place;
@@ -173,30 +177,30 @@ public final class InchBorders {
     }
 
     public int cross(int p, int l) {
-        return isPerson(p) && isLand(l) ? attempt(CROSS, p, l, 0) : NONE;
+        return isPerson(p) && isLand(l) ? attempt(CROSSING, p, l, 0) : NONE;
     }
 
     public int pact(int a, int b) {
-        return isLand(a) && isLand(b) ? attempt(PACT, a, b, 0) : NONE;
+        return isLand(a) && isLand(b) ? attempt(PACTING, a, b, 0) : NONE;
     }
 
     public int breaks(int a, int b) {
-        return isLand(a) && isLand(b) ? attempt(BREAK, a, b, 0) : NONE;
+        return isLand(a) && isLand(b) ? attempt(BREAKING, a, b, 0) : NONE;
     }
 
     public int close(int r) {
-        return r >= 0 && r < MOST_ROADS ? attempt(CLOSE, r, 0, 0) : NONE;
+        return r >= 0 && r < MOST_ROADS ? attempt(CLOSING, r, 0, 0) : NONE;
     }
 
     public int open(int r) {
-        return r >= 0 && r < MOST_ROADS ? attempt(OPEN, r, 0, 0) : NONE;
+        return r >= 0 && r < MOST_ROADS ? attempt(OPENING, r, 0, 0) : NONE;
     }
 
     public int lend(int a, int b, int n) {
         if (!isLand(a) || !isLand(b) || n < 1 || n > MOST_STORE) {
             return NONE;
         }
-        return attempt(LEND, a, b, n);
+        return attempt(LENDING, a, b, n);
     }
 
     public int days(int n) {
@@ -205,7 +209,7 @@ public final class InchBorders {
         }
         int go = Math.min(n, LAST_DAY - state.day);
         if (go > 0) {
-            attempt(DAY, 0, 0, go);
+            attempt(DAYS_GOING, 0, 0, go);
         }
         return go;
     }
@@ -382,7 +386,7 @@ public final class InchBorders {
         if (lives != 0 && lives != 1) {
             return NO_BOOK;
         }
-        latestBook.read(tape, state.chart);
+        latestBook.read(state.chart);
         tape.length = 0;
         if (tape.fault != 0) {
             return -2 - tape.place;
@@ -405,8 +409,8 @@ public final class InchBorders {
     }
 
     public int sentence() {
-        Sentence read = new Sentence();
-        read.read(tape, state.chart);
+        Sentence read = new Sentence(tape, state.chart);
+        read.read();
         tape.length = 0;
         if (tape.fault != 0) {
             return -1 - tape.place;
@@ -885,32 +889,32 @@ public final class InchBorders {
 
         int whyNot(int act, int a, int b, int n) {
             switch (act) {
-                case CROSS: return whyNotOver(a, b);
-                case PACT: return a == b ? 1 : hasBit(spares[a], b) ? 2 : 0;
-                case BREAK: return hasBit(spares[a], b) ? 0 : 1;
-                case CLOSE: return a >= chart.roads ? 1 : hasBit(closed, a) ? 2 : 0;
-                case OPEN: return a >= chart.roads ? 1 : hasBit(closed, a) ? 0 : 2;
-                case LEND: return a == b ? 1 : store[a] < n ? 2 : 0;
+                case CROSSING: return whyNotOver(a, b);
+                case PACTING: return a == b ? 1 : hasBit(spares[a], b) ? 2 : 0;
+                case BREAKING: return hasBit(spares[a], b) ? 0 : 1;
+                case CLOSING: return a >= chart.roads ? 1 : hasBit(closed, a) ? 2 : 0;
+                case OPENING: return a >= chart.roads ? 1 : hasBit(closed, a) ? 0 : 2;
+                case LENDING: return a == b ? 1 : store[a] < n ? 2 : 0;
                 default: return LAST_DAY - day < n ? 1 : 0;
             }
         }
 
         void perform(int act, int a, int b, int n) {
             switch (act) {
-                case CROSS:
+                case CROSSING:
                     goOver(a, b);
                     break;
-                case PACT:
+                case PACTING:
                     spares[a] |= 1 << b;
                     break;
-                case BREAK:
+                case BREAKING:
                     spares[a] &= ~(1 << b);
                     break;
-                case CLOSE:
-                case OPEN:
+                case CLOSING:
+                case OPENING:
                     turnRoad(a);
                     break;
-                case LEND:
+                case LENDING:
                     store[a] -= n;
                     store[b] += n;
                     break;
@@ -1076,14 +1080,17 @@ public final class InchBorders {
 
     /** Reads a MAP into a state that has been cleared for it. */
     private static final class MapText {
-        private Tape tape = null;
-        private State state = null;
+        private final Tape tape;
+        private final State state;
         private int stored = 0;
 
-        /** How many LINES there are; the tape tells if there is a FAULT. */
-        int read(Tape text, State fresh) {
+        MapText(Tape text, State fresh) {
             tape = text;
             state = fresh;
+        }
+
+        /** How many LINES there are; the tape tells if there is a FAULT. */
+        int read() {
             stored = 0;
             tape.begin(MAP_BYTES);
             int lines = 0;
@@ -1234,8 +1241,8 @@ public final class InchBorders {
 
     /** The LINES of a BOOK as acts, and why the first WRONG one was so. */
     private static final class Book {
-        private Tape tape = null;
-        private Chart chart = null;
+        private final Tape tape;
+        private Chart chart;
         private final int[] act = new int[MOST_LINES];
         private final int[] first = new int[MOST_LINES];
         private final int[] second = new int[MOST_LINES];
@@ -1243,8 +1250,12 @@ public final class InchBorders {
         private int lines = 0;
         int why = 0;
 
-        void read(Tape text, Chart map) {
+        Book(Tape text, Chart map) {
             tape = text;
+            chart = map;
+        }
+
+        void read(Chart map) {
             chart = map;
             lines = 0;
             tape.begin(BOOK_BYTES);
@@ -1263,12 +1274,12 @@ public final class InchBorders {
                 return tape.refuse(CANT_COME);
             }
             switch (tape.known) {
-                case PACT: return beginLine(PACT) && readTwo();
-                case BREAK: return beginLine(BREAK) && readTwo();
-                case CLOSE: return beginLine(CLOSE) && readRoad();
-                case OPEN: return beginLine(OPEN) && readRoad();
-                case LEND: return beginLine(LEND) && readTwo() && readAmount(MOST_STORE);
-                case DAY: return beginLine(DAY) && readAmount(MOST_DAYS);
+                case PACT: return beginLine(PACTING) && readTwo();
+                case BREAK: return beginLine(BREAKING) && readTwo();
+                case CLOSE: return beginLine(CLOSING) && readRoad();
+                case OPEN: return beginLine(OPENING) && readRoad();
+                case LEND: return beginLine(LENDING) && readTwo() && readAmount(MOST_STORE);
+                case DAY: return beginLine(DAYS_GOING) && readAmount(MOST_DAYS);
                 default: return tape.refuse(CANT_COME);
             }
         }
@@ -1285,7 +1296,7 @@ public final class InchBorders {
 
         private boolean readCrossing() {
             int p = tape.personHere(chart);
-            if (p == NONE || !beginLine(CROSS) || !tape.takeWord(Word.CROSSES)) {
+            if (p == NONE || !beginLine(CROSSING) || !tape.takeWord(Word.CROSSES)) {
                 return false;
             }
             int l = tape.takeLand(chart);
@@ -1337,8 +1348,8 @@ public final class InchBorders {
         // Of 20 ONES at most 19 are joined to one ahead.
         private static final int MOST_STEPS = 2 * MOST_ONES;
 
-        private Tape tape = null;
-        private Chart chart = null;
+        private final Tape tape;
+        private final Chart chart;
         private final Word[] what = new Word[MOST_STEPS];
         private final int[] sign = new int[MOST_STEPS];
         private final int[] value = new int[MOST_STEPS];
@@ -1346,9 +1357,12 @@ public final class InchBorders {
         private final int[] open = new int[MOST_STEPS];
         int ones = 0;
 
-        void read(Tape text, Chart map) {
+        Sentence(Tape text, Chart map) {
             tape = text;
             chart = map;
+        }
+
+        void read() {
             tape.begin(SENTENCE_BYTES);
             if (readCond(1) && !tape.atEnd()) {
                 tape.refuse(CANT_COME);
@@ -1475,7 +1489,11 @@ public final class InchBorders {
         }
 
         private boolean holds(State state, int p, int k) {
-            switch (what[k]) {
+            Word word = what[k];
+            if (word == null) {
+                return false;
+            }
+            switch (word) {
                 case HOME: return state.isHome(p);
                 case STUCK: return state.whither(p) == 0;
                 case IN: return state.at[p] == value[k];
@@ -1502,7 +1520,7 @@ public final class InchBorders {
         private static final int ROUND = 1;
         private static final int MADE = 2;
 
-        private Chart chart = null;
+        private Chart chart;
         private int home = 0;
         private int sparing = 0;
         private int closed = 0;
@@ -1515,6 +1533,10 @@ public final class InchBorders {
         private int rows = 0;
         private int longest = NONE;
         final Row best = new Row(WAY_CROSSINGS);
+
+        Walk(Chart map) {
+            chart = map;
+        }
 
         /** Whether there is a WAY, if his HOME had TREATIES with those LANDS besides. */
         boolean findWay(State state, int p, int besides, int land, int length) {
@@ -1603,14 +1625,19 @@ public final class InchBorders {
 
     /** All orders of those who could CROSS to a LAND: what one of them does never bars another, so all go over. */
     private static final class Caravan {
-        private Chart chart = null;
-        private State state = null;
+        private State state;
+        private Chart chart;
         private int target = 0;
         private int goers = 0;
         private int size = 0;
         private final int[] row = new int[MOST_PERSONS];
         private int longest = NONE;
         final Row best = new Row(MOST_PERSONS);
+
+        Caravan(State from) {
+            state = from;
+            chart = from.chart;
+        }
 
         int longestTogether(State from, int land) {
             state = from;
