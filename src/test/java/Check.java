@@ -9,15 +9,21 @@ final class Check {
 
     private static int seen = 0;
     private static int wrong = 0;
+    private static String sentence = "";
 
     private Check() {
+    }
+
+    /** The document's sentence that the answers from here on are of. */
+    static void of(String words) {
+        sentence = words + ": ";
     }
 
     static void due(String what, long got, long want) {
         seen++;
         if (got != want) {
             wrong++;
-            System.out.println(what + " answered " + got + ", due is " + want);
+            System.out.println(sentence + what + " answered " + got + ", due is " + want);
         }
     }
 
@@ -30,7 +36,7 @@ final class Check {
         seen++;
         if (!got.equals(want)) {
             wrong++;
-            System.out.println(what + " answered " + got + ", due is " + want);
+            System.out.println(sentence + what + " answered " + got + ", due is " + want);
         }
     }
 
