@@ -31,6 +31,9 @@ public final class CallEdgesTest {
         whatIsSaid();
         images();
         freshMap();
+        freshBehindTrials();
+        fullMap();
+        oddsDays();
         manyCalls();
         Check.end();
     }
@@ -411,7 +414,7 @@ public final class CallEdgesTest {
         Check.due("99", x.lend(1, 0, 99), 0);
         Check.due("197 and 1", x.land(0, 2) * 1000 + x.land(1, 2), 197001);
         Check.of("Promise 34: 'n (1 to 30) seeds x, x and 1, ..'");
-        x = Check.on("land a 0 20;land b 0 0;store a 1;road a b 0 240;person p a 9;person q b 9;");
+        x = Check.on(Check.THREE);
         int sum = 0;
         for (int k = 0; k < 30; k++) {
             int one = x.odds(0, 1, MOST - 3 + k);
@@ -419,6 +422,7 @@ public final class CallEdgesTest {
             sum += one;
             Check.due("so many seeds from x on", x.odds(0, k + 1, MOST - 3), sum);
         }
+        Check.due("not all seeds are like", sum > 0 && sum < 30, true);
         Check.of("Promise 34: 'longer than now behind 20 DAYS DRAWN from now on'");
         x = Check.on("land a 0 0;store a 20;person p a 9;person q a 240;");
         Check.due("he grows", x.odds(0, 30, 1), 30);
@@ -443,6 +447,21 @@ public final class CallEdgesTest {
         x.cross(0, 0);
         Check.due("DAY 400", x.odds(0, 30, 1), 0);
         Check.due("DAY 400 stays", x.now(0), 400);
+        x = Check.on("land a 0 0;store a 99;person p a 1;person q a 200;");
+        for (int k = 0; k < 6; k++) {
+            x.days(60);
+        }
+        x.days(39);
+        Check.due("nothing is left in the store", x.land(0, 2), 0);
+        Check.due("DAY 399, nobody grows", x.odds(0, 30, 1), 0);
+        x = Check.on("land a 0 0;land b 0 0;store b 1;person p a 1;");
+        for (int k = 0; k < 6; k++) {
+            x.days(60);
+        }
+        x.days(39);
+        x.lend(1, 0, 1);
+        Check.due("DAY 399, he grows on the one that is left", x.odds(0, 30, 1), 30);
+        Check.due("DAY 399 stays", x.now(0), 399);
     }
 
     private static void aheadOfAny() {
@@ -748,6 +767,78 @@ public final class CallEdgesTest {
         Check.due("no LANDS any more", x.count(0), 0);
         Check.due("one", Check.map(x, "land a 0 0;"), 1);
         Check.due("no FAULT", x.fault(), 0);
+    }
+
+    private static void freshBehindTrials() {
+        Check.of("'A new MAP: DAY 0, all ROADS are open, no SENTENCE', whatever was tried ahead of it");
+        String small = "land k 1 1;land m 1 1;road k m 0 240;person z m 9;";
+        Call[] trials = {x -> x.rests(), x -> x.odds(0, 2, 2), x -> Check.book(x, "day 1;pact cc bb;", 0),
+            x -> Check.book(x, "day 1;pact cc bb;", 1), x -> Check.map(x, "land q 1 1;store q 9;person w q 21;road q q 0 1;"),
+            x -> x.drawn(5, 5), x -> x.undo(), x -> x.restore(0) ? 1 : 0};
+        for (int k = 0; k < trials.length; k++) {
+            InchBorders x = Check.on("land aa 3 5;land bb 2 4;land cc 4 1;store aa 2;store bb 10;road aa bb 0 240;"
+                + "treaty aa cc;treaty aa bb;person ann bb 50;");
+            x.cross(0, 0);
+            x.cross(0, 1);
+            x.close(0);
+            x.days(4);
+            Check.sentence(x, "home");
+            x.image(0);
+            trials[k].on(x);
+            Check.due("a new MAP behind trial " + k, Check.map(x, small), 4);
+            Check.due("all is as told behind trial " + k, Check.sight(x), Check.sight(Check.on(small)));
+            Check.due("no SENTENCE behind trial " + k, x.said(NONE), NONE);
+        }
+    }
+
+    private static void fullMap() {
+        Check.of("'7 LANDS, 12 ROADS, 6 PERSONS at most': all calls on a full MAP");
+        InchBorders x = Check.on("land a 1 1;land b 1 1;land c 1 1;land d 1 1;land e 1 1;land f 1 1;land g 1 1;store a 1;"
+            + "store g 2;road g f 0 240;road g e 0 240;road g d 0 240;road g c 0 240;road g b 0 240;road g a 0 240;"
+            + "road a b 0 240;road b c 0 240;road c d 0 240;road d e 0 240;road e f 0 240;road f a 0 240;treaty g a;"
+            + "treaty a g;person p a 30;person q b 30;person r c 30;person s d 30;person t e 30;person u g 30;");
+        Check.due("whither u", x.person(5, 6), 63);
+        Check.due("all stores", x.now(2), 3);
+        Check.due("all lengths", x.now(1), 180);
+        Check.due("at HOME", x.now(5), 63);
+        Check.due("stuck", x.now(6), 0);
+        Check.due("a LAND more", Check.book(x, "u crosses h;", 1), -12);
+        Check.due("a PERSON more", Check.book(x, "v crosses a;", 1), -2);
+        Check.due("u crosses", Check.book(x, "u crosses a;", 1), NONE);
+        Check.due("CROSSINGS", x.now(3), 1);
+        Check.due("who is in a", x.land(0, 4), 33);
+        Check.due("TREATIES", x.now(7), 2);
+        Check.due("whither u", x.person(5, 6), 98);
+        Check.due("a way to g", x.way(5, 6, 30), 1);
+        Check.due("the longest round of u", x.round(5), 32);
+        Check.due("SPARE of u", x.spare(5, 3, 32), 1);
+        Check.due("SPARE of u", x.spared(), 8);
+        Check.due("all go to g", x.caravan(6), 180 - 4 + 1);
+        Check.due("all orders are like: the first", Check.caravanRow(x), "012345");
+        Check.due("a has three ROADS", x.part(0, 6), 3);
+        Check.due("a has three ROADS", x.parting(), 1 << 5 | 1 << 6 | 1 << 11);
+        Check.due("closed", x.close(11), 0);
+        Check.due("closed", x.road(11, 4), 1);
+        Check.due("said of all six", Check.sentence(x, "length > 0") + 10 * x.said(NONE) + 100 * x.said(5), 561);
+        Check.due("drawn", x.drawn(60, 9), 60);
+        Check.due("nothing is lost", x.now(1) + x.now(2), 183);
+        Check.due("undone", x.undo(), 2);
+    }
+
+    private static void oddsDays() {
+        Check.of("Promise 34: '20 DAYS DRAWN', neither 19 nor 21");
+        InchBorders x = Check.on(Check.THREE);
+        int[] longer = {0, 0, 0};
+        x.image(0);
+        for (int seed = 0; seed < 30; seed++) {
+            for (int k = 0; k < 3; k++) {
+                x.drawn(19 + k, seed);
+                longer[k] += x.person(0, 2) > 50 ? 1 : 0;
+                x.restore(0);
+            }
+        }
+        Check.due("19 and 21 would tell another number", longer[1] != longer[0] && longer[1] != longer[2], true);
+        Check.due("20 DAYS", x.odds(0, 30, 0), longer[1]);
     }
 
     private static void manyCalls() {

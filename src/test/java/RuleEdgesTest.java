@@ -13,6 +13,7 @@ public final class RuleEdgesTest {
         dayGrowth();
         dayEnd();
         ways();
+        landNought();
         rounds();
         spares();
         mades();
@@ -271,6 +272,17 @@ public final class RuleEdgesTest {
         Check.due("the 2 that are left are less than 3 taken", x.way(0, 0, 53), NONE);
     }
 
+    private static void landNought() {
+        Check.of("LAND 0 is a LAND like the others");
+        InchBorders x = Check.on("land a 7 0;land b 0 0;land c 0 0;road b a 0 240;road a c 0 240;person p b 30;");
+        Check.due("a TAKES on the way", x.way(0, 2, 24), NONE);
+        Check.due("a TAKES on the way", x.way(0, 2, 23), 2);
+        Check.due("a TAKES in a round", x.round(0), 23);
+        Check.due("a TAKES in every row", Check.made(x, 0, 30), 0);
+        Check.due("a itself is to spare him", x.spare(0, 2, 24), 1);
+        Check.due("a itself is to spare him", x.spared(), 1);
+    }
+
     private static void rounds() {
         Check.of("ROUND: 'behind 1 to 5 CROSSINGS'");
         InchBorders x = Check.on("land a 0 0;land b 3 0;road a b 0 240;person p a 50;");
@@ -405,6 +417,12 @@ public final class RuleEdgesTest {
         Check.due("six", x.caravan(1), 21);
         Check.due("six", Check.caravanRow(x), "012345");
         Check.due("there is no seventh", x.caravanAt(6), NONE);
+        Check.of("CARAVAN: a latter one may be shorter than one ahead");
+        x = Check.on("land a 5 0;land b 0 0;land c 9 0;road a b 0 99;road b c 0 99;person p b 50;person q b 50;");
+        Check.due("to b nobody", x.caravan(1), 100);
+        Check.due("to a both", x.caravan(0), 90);
+        Check.due("to a both", Check.caravanRow(x), "01");
+        Check.due("to c both", x.caravan(2), 82);
     }
 
     private static void parts() {
@@ -529,5 +547,10 @@ public final class RuleEdgesTest {
             }
         }
         Check.due("seeds whose first draw is 0", found > 3, true);
+        for (int seed = 0; seed < 40; seed++) {
+            InchBorders x = Check.on("land a 0 0;land b 0 0;person p a 9;");
+            x.drawn(1, seed);
+            Check.due("no ROAD is closed that is none, seed " + seed, x.now(4), 0);
+        }
     }
 }

@@ -313,6 +313,9 @@ public final class TextEdgesTest {
         sentenceReads(times("home and ", 19) + "home", 20);
         sentenceReads(times("(home)or ", 9) + "(home)", 20);
         sentenceFault(times("home or ", 20) + "home", 4, 160);
+        sentenceFault(times("home and ", 20) + "home", 4, 180);
+        sentenceFault(times("home or home and ", 10) + "home", 4, 170);
+        sentenceFault("(" + times("home and ", 19) + "home)", 4, 172);
         sentenceFault(times("(home)or ", 10) + "home", 4, 90);
         sentenceFault(times("(home)or ", 10) + "(home)", 4, 90);
         sentenceFault(times("(home)or ", 9) + "home or(home)", 4, 89);
