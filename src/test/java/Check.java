@@ -1,3 +1,4 @@
+import java.lang.reflect.InvocationTargetException;
 import java.nio.charset.StandardCharsets;
 import java.util.NoSuchElementException;
 
@@ -48,6 +49,22 @@ final class Check {
             thrown = 1;
         }
         due(what + " throws", thrown, 1);
+    }
+
+    /** The answer of a call told by its name (a boolean counts 1 or 0; NSE: it throws NoSuchElementException). */
+    static String called(InchBorders x, String name, String[] given) throws ReflectiveOperationException {
+        Class<?>[] types = new Class<?>[given.length];
+        Object[] values = new Object[given.length];
+        for (int i = 0; i < given.length; i++) {
+            types[i] = int.class;
+            values[i] = Integer.valueOf(given[i]);
+        }
+        try {
+            Object answer = InchBorders.class.getMethod(name, types).invoke(x, values);
+            return answer instanceof Boolean ? ((Boolean) answer ? "1" : "0") : answer.toString();
+        } catch (InvocationTargetException e) {
+            return e.getCause() instanceof NoSuchElementException ? "NSE" : e.getCause().toString();
+        }
     }
 
     static void end() {
